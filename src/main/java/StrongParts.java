@@ -102,7 +102,7 @@ public final class StrongParts {
         if (!arePair(a, b)) {
             return BAD;
         }
-        layers.takeShortest(graph, b);
+        layers.take(graph.into, b);
         return layers.firstWith(bit(a));
     }
 
@@ -110,7 +110,7 @@ public final class StrongParts {
         if (!arePair(a, b)) {
             return BAD;
         }
-        layers.takeShortest(graph, b);
+        layers.take(graph.into, b);
         int length = layers.firstWith(bit(a));
         if (length == NONE || i < 0 || i > length) {
             return NONE;
@@ -129,7 +129,7 @@ public final class StrongParts {
         if (!graph.isNode(node)) {
             return BAD;
         }
-        layers.takeShortest(graph, node);
+        layers.take(graph.into, node);
         int back = layers.firstWith(at(graph.out, node));
         return back == NONE ? NONE : back + 1;
     }
@@ -164,7 +164,7 @@ public final class StrongParts {
             return NONE;
         }
         for (int v = 0; v < graph.nodes; v++) {
-            layers.takeWalks(graph, v);
+            layers.take(graph.near, v);
             if (layers.firstOddWith(bit(v)) == length) {
                 return layers.follow(graph.near, v, length, i);
             }
@@ -253,7 +253,7 @@ public final class StrongParts {
     private int shortestOdd() {
         int fewest = NONE;
         for (int v = 0; v < graph.nodes; v++) {
-            layers.takeWalks(graph, v);
+            layers.take(graph.near, v);
             int length = layers.firstOddWith(bit(v));
             if (length != NONE && (fewest == NONE || length < fewest)) {
                 fewest = length;
@@ -264,7 +264,7 @@ public final class StrongParts {
 
     /** Every line meets the gates in the same order, so the way from a to b shows it. */
     private int lastOnWay(int a, int b, int through) {
-        layers.takeShortest(graph, b);
+        layers.take(graph.into, b);
         int length = layers.firstWith(bit(a));
         for (int i = length - 1; i >= 0; i--) {
             int v = layers.follow(graph.out, a, length, i);
@@ -603,27 +603,16 @@ public final class StrongParts {
         }
     }
 
-    /** Nodes by how many steps they are from a goal. */
+    /** By numbers of steps: the nodes that come to a goal in just as many, be it with detours. */
     private static final class Layers {
         private final int[] sets = new int[MOST + 1];
 
-        /** Layer i: those that come to the goal by i arcs, and not by fewer. */
-        private void takeShortest(Graph graph, int goal) {
-            int seen = 0;
+        /** The rows lead back from the goal. */
+        private void take(int[] rows, int goal) {
             int next = bit(goal);
             for (int i = 0; i < sets.length; i++) {
                 sets[i] = next;
-                seen |= next;
-                next = stepFrom(graph.into, next) & ~seen;
-            }
-        }
-
-        /** Layer i: those that come to the goal by touching i times, be it with detours. */
-        private void takeWalks(Graph graph, int goal) {
-            int next = bit(goal);
-            for (int i = 0; i < sets.length; i++) {
-                sets[i] = next;
-                next = stepFrom(graph.near, next);
+                next = stepFrom(rows, next);
             }
         }
 
