@@ -862,6 +862,8 @@ public final class StrongPartsEdges extends BySentence {
             due("an arc one way alone", Shape.ARC.made().loosen(), 0);
             due("an arc both ways", graph(2, 0, 1, 1, 0).loosen(), 1);
             due("touching in a ring, no line back", graph(3, 0, 1, 1, 2, 0, 2).loosen(), 0);
+            due("touching in a ring, 0 in the middle", graph(3, 2, 0, 0, 1, 2, 1).loosen(), 0);
+            due("touching in a ring, 2 in the middle", graph(3, 0, 2, 2, 1, 0, 1).loosen(), 0);
         });
     }
 

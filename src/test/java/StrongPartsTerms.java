@@ -1,3 +1,5 @@
+import java.util.Arrays;
+
 /** Each sentence of 'Terms', and of 'What it is' that with the 512 calls, by a test of its own. */
 public final class StrongPartsTerms extends BySentence {
     interface Body {
@@ -310,7 +312,7 @@ public final class StrongPartsTerms extends BySentence {
         terms("An ODD RING: a row of 3, 5, 7, .. NODES,", "not of 1 or 2, not of even ones", () -> {
             int[] row = {0, 1, 2, 3, 4, 5, 6, 7, 8, 9, 10, 11, 12, 13, 14};
             for (int n = 3; n <= 15; n++) {
-                StrongParts x = circle(15, java.util.Arrays.copyOf(row, n));
+                StrongParts x = circle(15, Arrays.copyOf(row, n));
                 due("odd() of a circle of " + n, x.odd(), n % 2 == 1 ? n : NONE);
             }
             due("odd() of one", Shape.ONE.made().odd(), NONE);
