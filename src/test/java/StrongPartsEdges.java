@@ -104,7 +104,7 @@ public final class StrongPartsEdges extends BySentence {
         for (Shape before : Shape.EACH) {
             for (Shape shape : Shape.EACH) {
                 List<String> want = shape.look(shape.made());
-                if (before.calls() + 1 + shape.calls() + want.size() > Shape.MOST_CALLS) {
+                if (before.calls() + 2 + shape.calls() + want.size() > Shape.MOST_CALLS) {
                     continue;
                 }
                 StrongParts x = before.made();
