@@ -1,6 +1,3 @@
-import java.io.IOException;
-import java.nio.file.Files;
-import java.nio.file.Path;
 import java.util.Arrays;
 import java.util.HashMap;
 import java.util.List;
@@ -42,23 +39,6 @@ abstract class BySentence {
     private static int tests = 0;
     private static int asked = 0;
     private static int wrong = 0;
-    private static final Map<String, String> DOCUMENT = read(Path.of("../shared/DOC.md"));
-
-    /** By headings ("Terms", "Promise 3") the text below, in one line, without the method's face. */
-    private static Map<String, String> read(Path path) {
-        Map<String, String> found = new HashMap<>();
-        try {
-            for (String section : Files.readString(path).split("(?m)^## ")) {
-                String[] headAndText = section.split("\n", 2);
-                String text = headAndText.length < 2 ? "" : headAndText[1];
-                String line = text.replaceAll("\\s+", " ").trim();
-                found.put(headAndText[0].split(":")[0].trim(), line.replaceFirst("^`[^`]*`: ", ""));
-            }
-        } catch (IOException e) {
-            fault("the document cannot be read: " + e);
-        }
-        return found;
-    }
 
     static void sentence(String heading, String words, String about, Runnable test) {
         label = heading + ", \"" + words + "\" (" + about + ")";
@@ -81,7 +61,7 @@ abstract class BySentence {
     }
 
     private static void quote(String heading, String words) {
-        String text = DOCUMENT.getOrDefault(heading, "");
+        String text = Document.words(heading);
         int at = text.indexOf(words);
         if (at < 0) {
             fault("the document does not say so");
@@ -218,7 +198,7 @@ abstract class BySentence {
     }
 
     private static void lookForGaps(String heading) {
-        String text = DOCUMENT.getOrDefault(heading, "");
+        String text = Document.words(heading);
         boolean[] quoted = QUOTED.getOrDefault(heading, new boolean[text.length()]);
         StringBuilder left = new StringBuilder();
         for (int i = 0; i < text.length(); i++) {

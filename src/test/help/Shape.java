@@ -1,5 +1,7 @@
 import java.util.ArrayList;
+import java.util.Arrays;
 import java.util.List;
+import java.util.Random;
 
 /** A graph to begin with: how many nodes and knots it has; its arcs as pairs: from, to, from, to, .. */
 record Shape(String name, int nodes, int knots, int... arcs) {
@@ -37,6 +39,40 @@ record Shape(String name, int nodes, int knots, int... arcs) {
             }
         }
         return arcs;
+    }
+
+    /** Each arc is there by a chance of so many in a hundred; of the knots nothing is known. */
+    static Shape byChance(Random random, int nodes, int percent) {
+        List<Integer> arcs = new ArrayList<>();
+        for (int a = 0; a < nodes; a++) {
+            for (int b = 0; b < nodes; b++) {
+                if (a != b && random.nextInt(100) < percent) {
+                    arcs.addAll(List.of(a, b));
+                }
+            }
+        }
+        int[] row = arcs.stream().mapToInt(v -> v).toArray();
+        return new Shape(nodes + " NODES by chance, ARCS " + arcs, nodes, 0, row);
+    }
+
+    /** With one arc more. */
+    Shape with(int from, int to) {
+        int[] more = Arrays.copyOf(arcs, arcs.length + 2);
+        more[arcs.length] = from;
+        more[arcs.length + 1] = to;
+        return new Shape(name + " and from " + from + " to " + to, nodes, 0, more);
+    }
+
+    /** Without the arcs to and from the nodes of a set. */
+    Shape without(int set) {
+        List<Integer> left = new ArrayList<>();
+        for (int i = 0; i + 1 < arcs.length; i += 2) {
+            if ((set >> arcs[i] & 1) == 0 && (set >> arcs[i + 1] & 1) == 0) {
+                left.addAll(List.of(arcs[i], arcs[i + 1]));
+            }
+        }
+        int[] row = left.stream().mapToInt(v -> v).toArray();
+        return new Shape(name + " without " + set, nodes, 0, row);
     }
 
     StrongParts made() {

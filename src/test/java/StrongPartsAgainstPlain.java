@@ -12,12 +12,6 @@ public final class StrongPartsAgainstPlain {
     private static final int FULL = -3;
     private static final int THERE = -4;
 
-    private static final String[] CALLS = {
-        "clear", "node", "arc", "cut", "knots", "knot", "members", "order", "orders", "depth", "steps",
-        "way", "reached", "round", "parts", "part", "side", "odd", "ring", "adding", "roots", "half",
-        "gates", "gate", "needed", "loosen", "of"
-    };
-
     private static int wrong = 0;
     private static long asked = 0;
 
@@ -72,83 +66,32 @@ public final class StrongPartsAgainstPlain {
         return plain;
     }
 
-    private static StrongParts build(Plain plain) {
-        StrongParts x = new StrongParts();
-        for (int v = 0; v < plain.n; v++) {
-            x.node();
-        }
-        for (int a = 0; a < plain.n; a++) {
-            for (int b = 0; b < plain.n; b++) {
-                if (plain.arc[a][b]) {
-                    x.arc(a, b);
-                }
-            }
-        }
-        return x;
-    }
-
-    /** Every question with every number from -1 to one too many; a new object for each kind. */
+    /** Every question with every number from -1 to one too many. */
     private static void askAll(Plain plain) {
-        int end = plain.n;
-        for (int call = 4; call < CALLS.length; call++) {
-            StrongParts x = build(plain);
-            if (takes(call) == 0) {
-                ask(x, plain, call, 0, 0, 0);
-            } else if (takes(call) == 1) {
-                for (int a = -1; a <= end; a++) {
-                    ask(x, plain, call, a, 0, 0);
-                }
-            } else if (takes(call) == 2) {
-                for (int a = -1; a <= end; a++) {
-                    for (int b = -1; b <= end; b++) {
-                        ask(x, plain, call, a, b, 0);
+        Supply supply = new Supply(plain.shape());
+        for (Call call : Call.EACH) {
+            if (call.changes()) {
+                continue;
+            }
+            int end = plain.n;
+            for (int a = call.numbers() > 0 ? -1 : end; a <= end; a++) {
+                for (int b = call.numbers() > 1 ? -1 : end; b <= end; b++) {
+                    for (int i = call.numbers() > 2 ? -1 : end; i <= end; i++) {
+                        ask(supply.forOne(), plain, call, a, b, i);
                     }
                 }
-            } else {
-                askWays(plain, call);
             }
-        }
-    }
-
-    private static void askWays(Plain plain, int call) {
-        for (int a = 0; a < plain.n; a++) {
-            StrongParts x = build(plain);
-            for (int b = 0; b < plain.n; b++) {
-                for (int i = -1; i <= plain.n; i++) {
-                    ask(x, plain, call, a, b, i);
-                }
-            }
-        }
-    }
-
-    private static int takes(int call) {
-        switch (CALLS[call]) {
-            case "way":
-                return 3;
-            case "arc": case "cut": case "steps": case "reached": case "gates": case "gate":
-            case "needed":
-                return 2;
-            case "knot": case "members": case "order": case "round": case "part": case "side":
-            case "ring": case "of":
-                return 1;
-            default:
-                return 0;
         }
     }
 
     private static void randomRun(Random random, int mostNodes) {
         StrongParts x = new StrongParts();
         Plain plain = new Plain();
-        for (int i = 0; i < 512 && wrong < 20; i++) {
-            int call = random.nextInt(CALLS.length);
-            if (random.nextInt(3) == 0) {
-                call = random.nextInt(5) == 0 ? 3 : 2;
-            }
-            boolean enough = CALLS[call].equals("node") && plain.n >= mostNodes && mostNodes < 15;
-            boolean tooSoon = CALLS[call].equals("clear") && random.nextInt(8) != 0;
-            if (i < mostNodes) {
-                call = 1;
-            } else if (enough || tooSoon) {
+        for (int i = 0; i < Shape.MOST_CALLS && wrong < 20; i++) {
+            Call call = i < mostNodes ? Call.named("node") : callByChance(random);
+            boolean enough = i >= mostNodes && plain.n >= mostNodes && mostNodes < 15;
+            boolean tooSoon = random.nextInt(8) != 0;
+            if (call.name().equals("node") && enough || call.name().equals("clear") && tooSoon) {
                 continue;
             }
             int bound = plain.n + 2;
@@ -157,49 +100,25 @@ public final class StrongPartsAgainstPlain {
         }
     }
 
-    private static void ask(StrongParts x, Plain plain, int call, int a, int b, int i) {
-        if (CALLS[call].equals("adding") && plain.n > 5) {
-            return;
+    /** Arcs are made and cut more often than the rest is asked. */
+    private static Call callByChance(Random random) {
+        if (random.nextInt(3) == 0) {
+            return Call.named(random.nextInt(5) == 0 ? "cut" : "arc");
         }
-        long want = plain.answer(CALLS[call], a, b, i);
-        long got = answer(x, CALLS[call], a, b, i);
-        asked++;
-        if (got != want && wrong++ < 20) {
-            System.out.println(CALLS[call] + " with " + a + ", " + b + ", " + i + " answered " + got
-                    + ", due is " + want + " on " + plain.show());
-        }
+        return Call.EACH[random.nextInt(Call.EACH.length)];
     }
 
-    private static long answer(StrongParts x, String call, int a, int b, int i) {
-        switch (call) {
-            case "clear": return x.clear();
-            case "node": return x.node();
-            case "arc": return x.arc(a, b);
-            case "cut": return x.cut(a, b);
-            case "knots": return x.knots();
-            case "knot": return x.knot(a);
-            case "members": return x.members(a);
-            case "order": return x.order(a);
-            case "orders": return x.orders();
-            case "depth": return x.depth();
-            case "steps": return x.steps(a, b);
-            case "way": return x.way(a, b, i);
-            case "reached": return x.reached(a, b);
-            case "round": return x.round(a);
-            case "parts": return x.parts();
-            case "part": return x.part(a);
-            case "side": return x.side(a);
-            case "odd": return x.odd();
-            case "ring": return x.ring(a);
-            case "adding": return x.adding();
-            case "roots": return x.roots();
-            case "half": return x.half();
-            case "gates": return x.gates(a, b);
-            case "gate": return x.gate(a, b);
-            case "needed": return x.needed(a, b);
-            case "loosen": return x.loosen();
-            case "of": return x.of(a);
-            default: throw new IllegalStateException(call);
+    /** Adding takes too long here above five nodes; StrongPartsWhatItIs looks at it another way. */
+    private static void ask(StrongParts x, Plain plain, Call call, int a, int b, int i) {
+        if (call.name().equals("adding") && plain.n > 5) {
+            return;
+        }
+        long want = plain.answer(call.name(), a, b, i);
+        long got = call.answer(x, a, b, i);
+        asked++;
+        if (got != want && wrong++ < 20) {
+            System.out.println(call.with(a, b, i) + " answered " + got + ", due is " + want + " on "
+                    + plain.shape().name());
         }
     }
 
@@ -246,14 +165,14 @@ public final class StrongPartsAgainstPlain {
             }
         }
 
-        private String show() {
-            StringBuilder text = new StringBuilder().append(n).append(" nodes:");
+        private Shape shape() {
+            Shape shape = new Shape(n + " NODES", n, 0);
             for (int a = 0; a < n; a++) {
                 for (int b = 0; b < n; b++) {
-                    text.append(arc[a][b] ? " " + a + ">" + b : "");
+                    shape = arc[a][b] ? shape.with(a, b) : shape;
                 }
             }
-            return text.toString();
+            return shape;
         }
 
         private int clear() {

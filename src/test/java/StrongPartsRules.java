@@ -1,26 +1,24 @@
 import java.lang.management.ManagementFactory;
 import java.lang.reflect.Field;
+import java.lang.reflect.InvocationTargetException;
 import java.lang.reflect.Method;
 import java.lang.reflect.Modifier;
 import java.nio.file.Files;
 import java.nio.file.Path;
+import java.util.ArrayList;
+import java.util.Comparator;
 import java.util.List;
+import java.util.Random;
 import java.util.TreeSet;
 import java.util.regex.Matcher;
 import java.util.regex.Pattern;
 
-/** The face as the document lists it, rules of the language that can be read off, and the room. */
+/** Rules of the language that can be read off or tried out, and the room. */
 public final class StrongPartsRules {
-    private static final List<String> FACE = List.of(
-            "int clear()", "int node()", "int arc(int,int)", "int cut(int,int)", "int knots()",
-            "int knot(int)", "int members(int)", "int order(int)", "long orders()", "int depth()",
-            "int steps(int,int)", "int way(int,int,int)", "int reached(int,int)", "int round(int)",
-            "int parts()", "int part(int)", "int side(int)", "int odd()", "int ring(int)",
-            "int adding()", "int roots()", "int half()", "int gates(int,int)", "int gate(int,int)",
-            "int needed(int,int)", "int loosen()", "int of(int)");
     private static final Pattern FORBIDDEN = Pattern.compile(
             "\\b(throw|throws|try|catch|synchronized|assert|Exact|Random|System\\.(?!arraycopy)\\w+"
             + "|Object|Thread|Map|Set|stream|hashCode|toString|null)\\b|->|::");
+    private static final Pattern METHOD = Pattern.compile("^( +)(private|public) [^=;]*\\) \\{$");
 
     private static int wrong = 0;
 
@@ -32,10 +30,12 @@ public final class StrongPartsRules {
     }
 
     public static void main(String[] args) throws Exception {
-        face();
-        constants();
+        String code = codeAlone(Files.readString(Path.of("src/main/java/StrongParts.java")));
         names();
-        words();
+        words(code);
+        staticFields();
+        neverThrows();
+        sizes(code);
         room();
         System.out.println(wrong == 0 ? "all rules looked at hold" : wrong + " rules do not hold");
         if (wrong != 0) {
@@ -43,79 +43,132 @@ public final class StrongPartsRules {
         }
     }
 
-    private static void face() throws Exception {
-        TreeSet<String> found = new TreeSet<>();
-        for (Method method : StrongParts.class.getDeclaredMethods()) {
-            if (!Modifier.isPrivate(method.getModifiers())) {
-                due(method + " is public", Modifier.isPublic(method.getModifiers()), true);
-                due(method + " is of an object", Modifier.isStatic(method.getModifiers()), false);
-                found.add(shape(method));
-            }
-        }
-        due("methods", found, new TreeSet<>(FACE));
-        due("constructors", StrongParts.class.getDeclaredConstructors().length, 1);
-        due("the constructor is public",
-                Modifier.isPublic(StrongParts.class.getDeclaredConstructor().getModifiers()), true);
-        int modifiers = StrongParts.class.getModifiers();
-        due("public and final", Modifier.isPublic(modifiers) && Modifier.isFinal(modifiers), true);
+    private static String codeAlone(String text) {
+        return text.replaceAll("(?s)/\\*.*?\\*/", "").replaceAll("//[^\n]*", "");
     }
 
-    private static String shape(Method method) {
-        StringBuilder types = new StringBuilder();
-        for (Class<?> type : method.getParameterTypes()) {
-            types.append(types.length() == 0 ? "" : ",").append(type.getName());
-        }
-        return method.getReturnType().getName() + " " + method.getName() + "(" + types + ")";
+    private static List<Class<?>> classes() {
+        List<Class<?>> found = new ArrayList<>(List.of(StrongParts.class));
+        found.addAll(List.of(StrongParts.class.getDeclaredClasses()));
+        return found;
     }
 
-    private static void constants() {
-        TreeSet<String> found = new TreeSet<>();
-        for (Field field : StrongParts.class.getDeclaredFields()) {
-            int modifiers = field.getModifiers();
-            if (!Modifier.isPrivate(modifiers)) {
-                found.add(Modifier.toString(modifiers) + " " + field.getType() + " " + field.getName());
-            }
-            if (Modifier.isStatic(modifiers)) {
-                due(field + " is final", Modifier.isFinal(modifiers), true);
-            }
-        }
-        String kind = "public static final int ";
-        due("constants", found,
-                new TreeSet<>(List.of(kind + "NONE", kind + "BAD", kind + "FULL", kind + "THERE")));
-        due("their values",
-                List.of(StrongParts.NONE, StrongParts.BAD, StrongParts.FULL, StrongParts.THERE),
-                List.of(-1, -2, -3, -4));
-    }
-
-    /** No method inside bears the name of a public one. */
+    /** Rule 1: no method inside bears the name of a public one. */
     private static void names() {
         TreeSet<String> taken = new TreeSet<>();
-        for (String one : FACE) {
-            taken.add(one.substring(one.indexOf(' ') + 1, one.indexOf('(')));
-        }
         for (Method method : StrongParts.class.getDeclaredMethods()) {
-            if (Modifier.isPrivate(method.getModifiers())) {
-                due(method + " bears a public name", taken.contains(method.getName()), false);
+            if (Modifier.isPublic(method.getModifiers())) {
+                taken.add(method.getName());
             }
         }
-        for (Class<?> inside : StrongParts.class.getDeclaredClasses()) {
-            due(inside + " is static", Modifier.isStatic(inside.getModifiers()), true);
-            for (Method method : inside.getDeclaredMethods()) {
-                due(method + " bears a public name", taken.contains(method.getName()), false);
-                due(method + " has few parameters", method.getParameterCount() <= 7, true);
+        for (Class<?> one : classes()) {
+            for (Method method : one.getDeclaredMethods()) {
+                boolean ofTheFace = Modifier.isPublic(method.getModifiers());
+                due(method + " bears a public name",
+                        !ofTheFace && taken.contains(method.getName()), false);
             }
         }
     }
 
-    private static void words() throws Exception {
-        String text = Files.readString(Path.of("src/main/java/StrongParts.java"));
-        String code = text.replaceAll("(?s)/\\*.*?\\*/", "").replaceAll("//[^\n]*", "");
+    /** Rules 2, 4, 6 and 13. */
+    private static void words(String code) {
         Matcher matcher = FORBIDDEN.matcher(code);
         while (matcher.find()) {
             due("a word outside the language", matcher.group(), "none");
         }
         due("imports", code.split("\\bimport\\b").length - 1, 1);
         due("the one import", code.contains("import java.util.Arrays;"), true);
+    }
+
+    /** Rule 5. */
+    private static void staticFields() {
+        for (Class<?> one : classes()) {
+            for (Field field : one.getDeclaredFields()) {
+                if (Modifier.isStatic(field.getModifiers())) {
+                    due(field + " is final", Modifier.isFinal(field.getModifiers()), true);
+                }
+            }
+        }
+    }
+
+    /** Rule 7, also behind the 512th call, whose answer is free, but not whether there is one. */
+    private static void neverThrows() throws Exception {
+        Random random = new Random(20261116L);
+        List<Method> face = new ArrayList<>(List.of(StrongParts.class.getDeclaredMethods()));
+        face.removeIf(method -> !Modifier.isPublic(method.getModifiers()));
+        face.sort(Comparator.comparing(Method::getName));
+        for (int run = 0; run < 40; run++) {
+            StrongParts x = new StrongParts();
+            for (int i = 0; i < 2000; i++) {
+                Method method = face.get(random.nextInt(face.size()));
+                if (!method.getName().equals("clear") || random.nextInt(20) == 0) {
+                    callByChance(x, method, random, run);
+                }
+            }
+        }
+    }
+
+    private static void callByChance(StrongParts x, Method method, Random random, int run)
+            throws Exception {
+        Object[] numbers = new Object[method.getParameterCount()];
+        for (int i = 0; i < numbers.length; i++) {
+            numbers[i] = numberByChance(random);
+        }
+        try {
+            method.invoke(x, numbers);
+        } catch (InvocationTargetException e) {
+            due(method.getName() + List.of(numbers) + " in run " + run, e.getCause(), "an answer");
+        }
+    }
+
+    /** Mostly a node's, else one near the bounds, else any at all. */
+    private static int numberByChance(Random random) {
+        switch (random.nextInt(8)) {
+            case 0:
+                return random.nextInt(70) - 35;
+            case 1:
+                return random.nextInt();
+            case 2:
+                return random.nextBoolean() ? Integer.MAX_VALUE : Integer.MIN_VALUE;
+            default:
+                return random.nextInt(15);
+        }
+    }
+
+    /** Rule 11. */
+    private static void sizes(String code) {
+        due("at most twelve classes", classes().size() <= 12, true);
+        for (Class<?> one : classes()) {
+            int fields = 0;
+            for (Field field : one.getDeclaredFields()) {
+                fields += Modifier.isStatic(field.getModifiers()) ? 0 : 1;
+            }
+            due(one + " has at most twenty fields", fields <= 20, true);
+            for (Method method : one.getDeclaredMethods()) {
+                due(method + " has at most seven parameters", method.getParameterCount() <= 7, true);
+            }
+        }
+        lengths(code.split("\n"));
+    }
+
+    private static void lengths(String[] lines) {
+        int methods = 0;
+        for (int i = 0; i < lines.length; i++) {
+            Matcher matcher = METHOD.matcher(lines[i]);
+            if (matcher.matches()) {
+                methods++;
+                int end = i;
+                while (!lines[end].equals(matcher.group(1) + "}")) {
+                    end++;
+                }
+                due(lines[i].trim() + " has at most sixty lines", end - i < 60, true);
+            }
+        }
+        int want = 0;
+        for (Class<?> one : classes()) {
+            want += one.getDeclaredMethods().length;
+        }
+        due("methods whose lines were counted, and the constructor", methods, want + 1);
     }
 
     /** Rows are made once: calls that are made over and over take no more room. */

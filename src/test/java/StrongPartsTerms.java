@@ -1,46 +1,8 @@
 import java.util.Arrays;
 
-/** Each sentence of 'Terms', and of 'What it is' that with the 512 calls, by a test of its own. */
+/** Each sentence of 'Terms' by a test of its own. */
 public final class StrongPartsTerms extends BySentence {
-    interface Body {
-        long on(StrongParts x, int a, int b, int c);
-    }
-
-    private record Method(String name, int numbers, boolean changes, Body body) {
-    }
-
-    private static final Method[] METHODS = {
-        new Method("clear", 0, true, (x, a, b, c) -> x.clear()),
-        new Method("node", 0, true, (x, a, b, c) -> x.node()),
-        new Method("arc", 2, true, (x, a, b, c) -> x.arc(a, b)),
-        new Method("cut", 2, true, (x, a, b, c) -> x.cut(a, b)),
-        new Method("knots", 0, false, (x, a, b, c) -> x.knots()),
-        new Method("knot", 1, false, (x, a, b, c) -> x.knot(a)),
-        new Method("members", 1, false, (x, a, b, c) -> x.members(a)),
-        new Method("order", 1, false, (x, a, b, c) -> x.order(a)),
-        new Method("orders", 0, false, (x, a, b, c) -> x.orders()),
-        new Method("depth", 0, false, (x, a, b, c) -> x.depth()),
-        new Method("steps", 2, false, (x, a, b, c) -> x.steps(a, b)),
-        new Method("way", 3, false, (x, a, b, c) -> x.way(a, b, c)),
-        new Method("reached", 2, false, (x, a, b, c) -> x.reached(a, b)),
-        new Method("round", 1, false, (x, a, b, c) -> x.round(a)),
-        new Method("parts", 0, false, (x, a, b, c) -> x.parts()),
-        new Method("part", 1, false, (x, a, b, c) -> x.part(a)),
-        new Method("side", 1, false, (x, a, b, c) -> x.side(a)),
-        new Method("odd", 0, false, (x, a, b, c) -> x.odd()),
-        new Method("ring", 1, false, (x, a, b, c) -> x.ring(a)),
-        new Method("adding", 0, false, (x, a, b, c) -> x.adding()),
-        new Method("roots", 0, false, (x, a, b, c) -> x.roots()),
-        new Method("half", 0, false, (x, a, b, c) -> x.half()),
-        new Method("gates", 2, false, (x, a, b, c) -> x.gates(a, b)),
-        new Method("gate", 2, false, (x, a, b, c) -> x.gate(a, b)),
-        new Method("needed", 2, false, (x, a, b, c) -> x.needed(a, b)),
-        new Method("loosen", 0, false, (x, a, b, c) -> x.loosen()),
-        new Method("of", 1, false, (x, a, b, c) -> x.of(a)),
-    };
-
     public static void main(String[] args) {
-        calls();
         nodesAndArcs();
         lines();
         knots();
@@ -56,47 +18,6 @@ public final class StrongPartsTerms extends BySentence {
 
     private static void terms(String words, String about, Runnable test) {
         sentence("Terms", words, about, test);
-    }
-
-    private static void calls() {
-        String words = "An object is used for at most 512 calls after it has been made";
-        sentence("What it is", words, "each call as the 512th is answered as it would be at once",
-                StrongPartsTerms::eachAsThe512th);
-        sentence("What it is", words, "512 calls that take the longest", () -> {
-            StrongParts alone = graph(15);
-            for (int i = 15; i < Shape.MOST_CALLS; i++) {
-                due("orders(), call " + (i + 1), alone.orders(), 1307674368000L);
-            }
-            StrongParts all = Shape.ALL.made();
-            for (int i = Shape.ALL.calls(); i < Shape.MOST_CALLS; i++) {
-                due("loosen(), call " + (i + 1), all.loosen(), 16383);
-            }
-        });
-        sentence("What it is", words, "512 times made empty and begun anew", () -> {
-            StrongParts x = new StrongParts();
-            for (int i = 0; i < Shape.MOST_CALLS; i += 4) {
-                due("node()", x.node(), 0);
-                due("node()", x.node(), 1);
-                due("arc(1, 0)", x.arc(1, 0), 1);
-                due("clear()", x.clear(), 2);
-            }
-        });
-    }
-
-    private static void eachAsThe512th() {
-        for (Method method : METHODS) {
-            long want = method.body.on(Shape.MIXED.made(), 2, 1, 1);
-            StrongParts x = Shape.MIXED.made();
-            int used = Shape.MIXED.calls();
-            while (used < Shape.MOST_CALLS - 1) {
-                Method filler = METHODS[used % METHODS.length];
-                if (!filler.changes) {
-                    filler.body.on(x, used % 15, used % 2, used % 3);
-                }
-                used++;
-            }
-            due(method.name + " with 2, 1, 1", method.body.on(x, 2, 1, 1), want);
-        }
     }
 
     private static void nodesAndArcs() {
@@ -450,8 +371,8 @@ public final class StrongPartsTerms extends BySentence {
         });
         terms("What is refused changes nothing.", "each call, whatever the numbers", () -> {
             for (Shape shape : Shape.EACH) {
-                for (Method method : METHODS) {
-                    refusedOrAsked(shape, method);
+                for (Call call : Call.EACH) {
+                    refusedOrAsked(shape, call);
                 }
             }
         });
@@ -469,18 +390,17 @@ public final class StrongPartsTerms extends BySentence {
     }
 
     /** What only asks changes nothing either, be it refused or not. */
-    private static void refusedOrAsked(Shape shape, Method method) {
+    private static void refusedOrAsked(Shape shape, Call call) {
         int n = shape.nodes();
         int[] numbers = {-1, 0, 1, n - 1, n, LEAST, GREATEST};
         int[] once = {0};
-        for (int a : method.numbers > 0 ? numbers : once) {
-            for (int b : method.numbers > 1 ? numbers : once) {
-                for (int c : method.numbers > 2 ? numbers : once) {
+        for (int a : call.numbers() > 0 ? numbers : once) {
+            for (int b : call.numbers() > 1 ? numbers : once) {
+                for (int c : call.numbers() > 2 ? numbers : once) {
                     StrongParts x = shape.made();
-                    boolean refused = method.body.on(x, a, b, c) < 0;
-                    if (refused || !method.changes) {
-                        String call = method.name + " with " + a + ", " + b + ", " + c;
-                        unchanged(call + " of " + shape.name(), shape, x, 1);
+                    boolean refused = call.answer(x, a, b, c) < 0;
+                    if (refused || !call.changes()) {
+                        unchanged(call.with(a, b, c) + " of " + shape.name(), shape, x, 1);
                     }
                 }
             }
